@@ -188,8 +188,8 @@ public final class TailoredOrder {
         return string < (1 << 8) ? 1 : string < (1 << 16) ? 2 : STRING_LIMIT;
     }
 
-    private static int joined(int string, int c) {
-        return string | (c << (8 * lengthOf(string)));
+    private static int joined(int string, int length, int c) {
+        return string | (c << (8 * length));
     }
 
     private static int firstOf(int string, int count) {
@@ -292,10 +292,14 @@ public final class TailoredOrder {
         private boolean goOn(char c) {
             int last = count - 1;
             boolean fits = isLetter(c) || isMark(c);
-            if (!fits || last < 0 || lengthOf(strings[last]) == STRING_LIMIT) {
+            if (!fits || last < 0) {
                 return false;
             }
-            strings[last] = joined(strings[last], c);
+            int length = lengthOf(strings[last]);
+            if (length >= STRING_LIMIT) {
+                return false;
+            }
+            strings[last] = joined(strings[last], length, c);
             return true;
         }
     }
@@ -576,7 +580,8 @@ public final class TailoredOrder {
 
         private int findLonger(int entry, char mark) {
             int string = table.strings[entry];
-            return lengthOf(string) == STRING_LIMIT ? NO_ENTRY : table.find(joined(string, mark));
+            int stringLength = lengthOf(string);
+            return stringLength >= STRING_LIMIT ? NO_ENTRY : table.find(joined(string, stringLength, mark));
         }
 
         private void addEntry(int entry) {

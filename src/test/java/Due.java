@@ -1,4 +1,7 @@
-/** Counts the answers of one test that are not as due, and drives an object with whole texts. */
+/**
+ * Counts the answers of one test that are not as due, and drives an object with whole texts.
+ * What an object answers behind its 512th call is free, so the helpers are sparing with calls.
+ */
 final class Due {
     private final String test;
     private int asked = 0;
@@ -55,7 +58,8 @@ final class Due {
 
     static String key(TailoredOrder x, int line) {
         StringBuilder row = new StringBuilder();
-        for (int i = 0; i < x.keyLength(line); i++) {
+        int length = x.keyLength(line);
+        for (int i = 0; i < length; i++) {
             row.append(i == 0 ? "" : " ").append(x.keyAt(line, i));
         }
         return row.toString();
@@ -64,7 +68,8 @@ final class Due {
     /** Strings with their steps behind a colon, parted by spaces. */
     static String table(TailoredOrder x) {
         StringBuilder row = new StringBuilder();
-        for (int i = 0; i < x.entries(); i++) {
+        int entries = x.entries();
+        for (int i = 0; i < entries; i++) {
             row.append(i == 0 ? "" : " ").append(string(x, i)).append(':').append(x.entry(i, 3));
         }
         return row.toString();
@@ -72,8 +77,12 @@ final class Due {
 
     static String string(TailoredOrder x, int i) {
         StringBuilder string = new StringBuilder();
-        for (int what = 0; what < 3 && x.entry(i, what) >= 0; what++) {
-            string.append((char) x.entry(i, what));
+        for (int what = 0; what < 3; what++) {
+            int c = x.entry(i, what);
+            if (c < 0) {
+                break;
+            }
+            string.append((char) c);
         }
         return string.toString();
     }
@@ -84,7 +93,8 @@ final class Due {
 
     static String order(TailoredOrder x) {
         StringBuilder row = new StringBuilder();
-        for (int i = 0; i < x.filed(); i++) {
+        int filed = x.filed();
+        for (int i = 0; i < filed; i++) {
             row.append(i == 0 ? "" : " ").append(x.inOrder(i));
         }
         return row.toString();

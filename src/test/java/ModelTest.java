@@ -33,6 +33,9 @@ public final class ModelTest {
 
     private void due(String call, Object got, Object want) {
         calls++;
+        if (calls > CALLS) {
+            return;
+        }
         DUE.is("run " + run + ", call " + calls + ": " + call, got, want);
     }
 

@@ -7,7 +7,8 @@ public final class Promise04TailorTest {
         putIn();
         takenOut();
         refusals();
-        limitOfEntries();
+        upToTheLimit();
+        atTheLimit();
         DUE.end();
     }
 
@@ -142,18 +143,27 @@ public final class Promise04TailorTest {
         noRule(rule, answer);
     }
 
-    private static void limitOfEntries() {
+    private static TailoredOrder with29() {
         TailoredOrder x = new TailoredOrder();
         DUE.is("seven more", Due.rule(x, "&a<aa<ab<ac<ad<ae<af<ag"), 25);
         DUE.is("four more", Due.rule(x, "&a<ba<bb<bc<bd"), 29);
+        return x;
+    }
+
+    private static void upToTheLimit() {
+        TailoredOrder x = with29();
         String table = Due.table(x);
         DUE.is("two more", Due.rule(x, "&a<ca<cb"), -102);
         DUE.is("the table of 29", Due.table(x), table);
         DUE.is("the anchor before the limit", Due.rule(x, "&a<a<ca<cb"), -101);
         DUE.is("the limit before the anchor", Due.rule(x, "&a<ca<cb<cb"), -102);
+    }
+
+    private static void atTheLimit() {
+        TailoredOrder x = with29();
         DUE.is("the 30th", Due.rule(x, "&a<ca"), 30);
         DUE.is("entries()", x.entries(), 30);
-        table = Due.table(x);
+        String table = Due.table(x);
         DUE.is("one more", Due.rule(x, "&a<cb"), -102);
         DUE.is("one taken out and one more", Due.rule(x, "&a<b<cb"), -102);
         DUE.is("the table of 30", Due.table(x), table);

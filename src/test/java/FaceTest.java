@@ -56,7 +56,7 @@ public final class FaceTest {
         }
     }
 
-    private static String signature(Method method) {
+    static String signature(Method method) {
         String types = Arrays.toString(method.getParameterTypes());
         return method.getReturnType() + " " + method.getName() + "(" + types.substring(1, types.length() - 1) + ")";
     }
